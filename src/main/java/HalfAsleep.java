@@ -560,7 +560,7 @@ public final class HalfAsleep {
             int byLeft = 0;
             int byRight = 0;
             for (int step = 0; step < tradeLengths[trade]; step++) {
-                // Nobody is ahead of the first STEP: both begin at 0, and no handing can be cheaper.
+                // Nobody is ahead of the first STEP, so both begin at 0 and it costs no handing.
                 int left = Math.min(byLeft, byRight + 1);
                 int right = Math.min(byRight, byLeft + 1);
                 byLeft = hasSkillFor(person, 0, trade, step) ? left : never;
@@ -571,12 +571,12 @@ public final class HalfAsleep {
         }
 
         int share(int x, int y, int side) {
-            int left = coins - x - y;
-            if (left < 0) {
+            int untaken = coins - x - y;
+            if (untaken < 0) {
                 return 0;
             }
             int own = side == 0 ? x * worthLeft : y * worthRight;
-            return own + left / 2;
+            return own + untaken / 2;
         }
 
         int partings(int way) {

@@ -253,6 +253,40 @@ public final class PromiseTest {
         due("N without", x.count(8), 2);
         due("PURSE without", x.purse(9, 0, 0), 9);
         due("known without", x.half(0, 0, 1), 0);
+        layLessThanBefore();
+    }
+
+    /** Nothing of a richer text, laid twice, is left behind a poorer one. */
+    private static void layLessThanBefore() {
+        HalfAsleep x = new HalfAsleep();
+        String rich = "p1,1;p63,63;j0;j5;m0,0,1,1;m0,0,1,0;k0,0,255;k0,1,255;k1,0,255;k1,1,255;c8;n8;u20,9,9;";
+        Check.write(x, rich);
+        due("lay()", x.lay(), 2);
+        due("lay() again", x.lay(), 2);
+        x.wipe();
+        Check.write(x, "p1,1;j5;");
+        for (int time = 0; time < 2; time++) {
+            due("lay()", x.lay(), 1);
+            due("TRADES", x.count(1), 1);
+            due("pairs", x.count(2), 0);
+            due("C", x.count(7), 3);
+            due("N", x.count(8), 2);
+            due("LEFT knows", x.half(0, 0, 1), 0);
+            due("RIGHT knows", x.half(0, 1, 1), 0);
+            due("PERSON 1", x.half(1, 0, 0), BAD);
+            due("best(0)", x.best(0), NONE);
+            due("best(1)", x.best(1), BAD);
+            due("camps(0)", x.camps(0), 0);
+            due("could(0, 0)", x.could(0, 0), 1);
+            due("fits()", x.fits(), 1);
+            due("purse(9, 9, 0)", x.purse(9, 9, 0), 0);
+        }
+        x.wipe();
+        Check.write(x, "p1,1;p0,0;");
+        due("lay()", x.lay(), 2);
+        due("LEFT of 1 knows", x.half(1, 0, 1), 0);
+        due("RIGHT of 1 knows", x.half(1, 1, 1), 0);
+        due("camps(0)", x.camps(0), 0);
     }
 
     private static void half() {
@@ -563,6 +597,10 @@ public final class PromiseTest {
         due("uneven", uneven.rests(0), 2);
         due("uneven, x", uneven.rests(1), 8);
         due("uneven, y", uneven.rests(2), 9);
+        HalfAsleep seven = laid("p1,1;u7,1,1;");
+        due("by 7", seven.rests(0), 17);
+        due("by 7, x", seven.rests(1), 0);
+        due("by 7, y", seven.rests(2), 7);
         int[] wrong = {3, -1, MAX, MIN};
         for (int what : wrong) {
             due("rests(" + what + ")", x.rests(what), BAD);
@@ -665,6 +703,11 @@ public final class PromiseTest {
         due("a DEED that needs nothing", x.least(), 1);
         x.seen(1, 1);
         due("RIGHT knows nothing", x.least(), NONE);
+        HalfAsleep five = laid("p1,1;p1,1;p1,1;p1,1;p1,1;n0;k0,0,1;k1,0,2;k2,0,4;k3,0,8;k4,0,16;");
+        for (int k = 0; k < 5; k++) {
+            five.seen(2 * k, 1 << k);
+        }
+        due("all five", five.least(), 31);
     }
 
     private static void month() {
