@@ -81,7 +81,17 @@ public final class ModelTest {
         }
         writeText(text);
         same("fault", real.fault(), model.fault());
+        if (random.nextInt(8) == 0) {
+            writeAgainShorter(text);
+        }
         same("lay", real.lay(), model.lay());
+    }
+
+    /** The bytes behind the end are then those that would go on with the text. */
+    private void writeAgainShorter(String text) {
+        same("wipe", real.wipe(), model.wipe());
+        writeText(text.substring(0, upTo(text.length())));
+        same("fault", real.fault(), model.fault());
     }
 
     private void writeText(String text) {
@@ -141,7 +151,7 @@ public final class ModelTest {
         StringBuilder row = new StringBuilder(text);
         int at = upTo(row.length() - 1);
         String signs = "pjcnkmu0123456789,;;,x ";
-        switch (random.nextInt(4)) {
+        switch (random.nextInt(5)) {
             case 0:
                 row.setCharAt(at, signs.charAt(upTo(signs.length() - 1)));
                 break;
@@ -150,6 +160,9 @@ public final class ModelTest {
                 break;
             case 2:
                 row.insert(at, signs.charAt(upTo(signs.length() - 1)));
+                break;
+            case 3:
+                row.setLength(at);
                 break;
             default:
                 row.setCharAt(at, (char) upTo(255));

@@ -124,6 +124,22 @@ public final class PromiseTest {
         due("write behind it", Check.write(x, "p7,8;"), 5);
         due("lay()", x.lay(), 1);
         due("skills", x.half(0, 0, 0), 7);
+        wipedBytesAreGone();
+    }
+
+    /** What stood behind the end before a wipe is no part of a shorter text. */
+    private static void wipedBytesAreGone() {
+        List<String> items = List.of("p12,34;", "j0123;", "c1;", "n1;", "u1,1,1;");
+        for (String item : items) {
+            for (int length = 1; length < item.length(); length++) {
+                HalfAsleep x = new HalfAsleep();
+                Check.write(x, item);
+                x.wipe();
+                Check.write(x, item.substring(0, length));
+                due("fault of " + length + " bytes of " + item, x.fault(), 0);
+                due("lay()", x.lay(), NO);
+            }
+        }
     }
 
     private static void faultAt(String text, int want) {
@@ -277,6 +293,7 @@ public final class PromiseTest {
             due("best(0)", x.best(0), NONE);
             due("best(1)", x.best(1), BAD);
             due("camps(0)", x.camps(0), 0);
+            due("camps(1)", x.camps(1), 0);
             due("could(0, 0)", x.could(0, 0), 1);
             due("fits()", x.fits(), 1);
             due("purse(9, 9, 0)", x.purse(9, 9, 0), 0);
