@@ -51,9 +51,13 @@ public final class TermsEdgeTest {
 
     /** From one SHIFT to another one in as few calls as can be: 250 from 0 to 9999. */
     private static void go(HalfAsleep x, int from, int to) {
-        int at = from;
-        while (at < to) {
-            at = x.shifts(Math.min(40, to - at));
+        for (int at = from; at < to; at += 40) {
+            int by = Math.min(40, to - at);
+            int answer = x.shifts(by);
+            if (answer != at + by) {
+                due("shifts(" + by + ") at " + at, answer, at + by);
+                return;
+            }
         }
     }
 
@@ -262,6 +266,7 @@ public final class TermsEdgeTest {
         x.shifts(40);
         x.see(1, 4);
         x.note(1, 4);
+        x.note(0, 0);
         for (int k = 0; k < 10; k++) {
             x.seen(0, 255);
         }
@@ -418,6 +423,10 @@ public final class TermsEdgeTest {
         due("apart again", x.alike(0), NONE);
         HalfAsleep same = laid("p1,1;n0;k0,0,255;k0,1,255;");
         due("both know all", same.alike(0), 0);
+        HalfAsleep five = laid(FIVE + "n1;k1,0,1;k2,1,3;k3,0,7;k4,0,15;k4,1,240;");
+        for (int i = 0; i < 5; i++) {
+            due("each of five, " + i, five.alike(i), i);
+        }
     }
 
     private static void purseTakenWhole() {
@@ -492,6 +501,10 @@ public final class TermsEdgeTest {
         due("10 coin", ten.rests(0), 9);
         due("10 coin, x", ten.rests(1), 1);
         due("10 coin, y", ten.rests(2), 9);
+        nine.wipe();
+        Check.write(nine, "p1,1;u0,1,1;");
+        nine.lay();
+        due("0 coin behind 9", nine.rests(0), 100);
         due("rests(-1)", nine.rests(-1), BAD);
         due("rests(3)", nine.rests(3), BAD);
     }
@@ -593,6 +606,12 @@ public final class TermsEdgeTest {
         due("4 still", x.least(), 16);
         x.seen(0, 16);
         due("nobody could", x.least(), NONE);
+        HalfAsleep five = laid(FIVE + "n0;k0,0,1;k1,0,2;k2,0,4;k3,0,8;k4,0,16;");
+        int[] needed = {1, 3, 7, 15, 31};
+        for (int fact = 0; fact < 5; fact++) {
+            five.seen(0, 1 << fact);
+            due("each by another one", five.least(), needed[fact]);
+        }
         HalfAsleep pairs = laid("p1,1;p1,1;p1,1;p1,1;n0;k0,0,1;k1,0,2;k2,0,1;k3,0,2;");
         pairs.seen(0, 1);
         pairs.seen(0, 2);

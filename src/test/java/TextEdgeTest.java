@@ -7,7 +7,7 @@ public final class TextEdgeTest {
     private static final Twins TWINS = new Twins(CHECK);
 
     /** An item that holds behind two PERSONS, and of each of its numbers the least and the greatest value. */
-    private record Item(char letter, int[] good, int[] least, int[] most) {
+    private record Item(String sentence, char letter, int[] good, int[] least, int[] most) {
         String with(int at, String number) {
             StringBuilder text = new StringBuilder().append(letter);
             for (int k = 0; k < good.length; k++) {
@@ -23,13 +23,19 @@ public final class TextEdgeTest {
 
     private static final String TWO = "p1,2;p3,4;";
     private static final List<Item> ITEMS = List.of(
-            new Item('p', new int[] {5, 6}, new int[] {0, 0}, new int[] {63, 63}),
-            new Item('c', new int[] {4}, new int[] {1}, new int[] {8}),
-            new Item('n', new int[] {3}, new int[] {0}, new int[] {8}),
-            new Item('k', new int[] {1, 0, 9}, new int[] {0, 0, 0}, new int[] {1, 1, 255}),
-            new Item('u', new int[] {8, 2, 3}, new int[] {0, 1, 1}, new int[] {20, 9, 9}),
+            new Item("SKILLS (bits; 0 to 63 each)",
+                    'p', new int[] {5, 6}, new int[] {0, 0}, new int[] {63, 63}),
+            new Item("C STEPS in a SHIFT at most (1 to 8; 3 without)",
+                    'c', new int[] {4}, new int[] {1}, new int[] {8}),
+            new Item("N FACTS at most (0 to 8; 2 without)",
+                    'n', new int[] {3}, new int[] {0}, new int[] {8}),
+            new Item("half D (0 LEFT, 1 RIGHT) of PERSON I .. FACTS F (bits; 0 to 255)",
+                    'k', new int[] {1, 0, 9}, new int[] {0, 0, 0}, new int[] {1, 1, 255}),
+            new Item("P coin (0 to 20), a coin is worth G to LEFT halves, H to RIGHT ones (1 to 9 each)",
+                    'u', new int[] {8, 2, 3}, new int[] {0, 1, 1}, new int[] {20, 9, 9}),
             // of unlike PERSONS: with two of them each can be but the one that the other is not
-            new Item('m', new int[] {0, 0, 1, 0}, new int[] {0, 0, 1, 0}, new int[] {0, 1, 1, 1}));
+            new Item("half D of PERSON I is MARRIED to half E of J",
+                    'm', new int[] {0, 0, 1, 0}, new int[] {0, 0, 1, 0}, new int[] {0, 1, 1, 1}));
 
     public static void main(String[] args) {
         mostBytes();
@@ -54,6 +60,7 @@ public final class TextEdgeTest {
         withoutItems();
         firstFault();
         cutTexts();
+        readAgain();
         everyByteChanged();
         CHECK.end("TextEdgeTest");
     }
@@ -286,8 +293,8 @@ public final class TextEdgeTest {
     }
 
     private static void valuesOfNumbers() {
-        CHECK.about("(0 to 63 each) (1 to 8) (0 to 8) (0 LEFT, 1 RIGHT) (0 to 255) (0 to 20) (1 to 9 each)");
         for (Item item : ITEMS) {
+            CHECK.about(item.sentence());
             for (int at = 0; at < item.good().length; at++) {
                 for (int value = 0; value <= 999; value++) {
                     boolean right = value >= item.least()[at] && value <= item.most()[at];
@@ -296,6 +303,7 @@ public final class TextEdgeTest {
                 }
             }
         }
+        CHECK.about("the least and the greatest of each count as told");
         HalfAsleep x = laid("p0,63;p63,0;k0,0,0;k0,1,255;k1,0,255;k1,1,0;u20,9,9;");
         due("no SKILLS", x.half(0, 0, 0), 0);
         due("all SKILLS", x.half(0, 1, 0), 63);
@@ -516,6 +524,32 @@ public final class TextEdgeTest {
             }
             ahead.append(item);
             faultAt(ahead.toString(), NONE);
+        }
+    }
+
+    /** A reading that ends at a fault leaves nothing behind for the next one. */
+    private static void readAgain() {
+        CHECK.about("a text read within an ITEM, then whole; or wiped, then another one");
+        String text = "p12,34;p5,63;j012345;c4;n3;k1,0,255;k0,1,3;m0,0,1,1;j5;u18,2,3;";
+        String other = "p1,1;p2,2;j0;";
+        List<Integer> due = Twins.everything(laid(text));
+        List<Integer> dueOther = Twins.everything(laid(other));
+        for (int length = 1; length <= text.length(); length++) {
+            HalfAsleep whole = new HalfAsleep();
+            Check.write(whole, text.substring(0, length));
+            whole.fault();
+            whole.lay();
+            Check.write(whole, text.substring(length));
+            due("lay() of the whole", whole.lay(), 2);
+            CHECK.holds("all is as by the whole alone, " + length, Twins.everything(whole).equals(due));
+            HalfAsleep wiped = new HalfAsleep();
+            Check.write(wiped, text.substring(0, length));
+            wiped.fault();
+            wiped.lay();
+            wiped.wipe();
+            Check.write(wiped, other);
+            due("lay() of the other", wiped.lay(), 2);
+            CHECK.holds("all is as by the other alone, " + length, Twins.everything(wiped).equals(dueOther));
         }
     }
 
