@@ -2,6 +2,7 @@ import com.sun.source.tree.AssignmentTree;
 import com.sun.source.tree.BinaryTree;
 import com.sun.source.tree.ClassTree;
 import com.sun.source.tree.CompilationUnitTree;
+import com.sun.source.tree.CompoundAssignmentTree;
 import com.sun.source.tree.ConditionalExpressionTree;
 import com.sun.source.tree.DoWhileLoopTree;
 import com.sun.source.tree.EnhancedForLoopTree;
@@ -255,73 +256,98 @@ public final class LanguageTest extends TreePathScanner<Void, Void> {
                 && asked.getCondition().toString().contains(divisor.toString() + " <= 0");
     }
 
-    /** The names that are changed by ++ or --, or by anything else, inside a tree. */
-    private static Set<String> changed(Tree tree, boolean byOne) {
+    /** The names that ++ (or --) steps inside a tree. */
+    private static Set<String> stepped(Tree tree, Tree.Kind step) {
         Set<String> names = new HashSet<>();
         new TreeScanner<Void, Void>() {
             @Override
             public Void visitUnary(UnaryTree unary, Void nothing) {
-                if (byOne && unary.getExpression() instanceof IdentifierTree name && isStep(unary)) {
-                    names.add(name.getName().toString());
+                if (unary.getKind() == step) {
+                    names.add(unary.getExpression().toString());
+                }
+                return super.visitUnary(unary, nothing);
+            }
+        }.scan(tree, null);
+        return names;
+    }
+
+    /** The names that anything but a step behind the name changes inside a tree. */
+    private static Set<String> set(Tree tree) {
+        Set<String> names = new HashSet<>();
+        new TreeScanner<Void, Void>() {
+            @Override
+            public Void visitUnary(UnaryTree unary, Void nothing) {
+                if (unary.getKind() == Tree.Kind.PREFIX_INCREMENT || unary.getKind() == Tree.Kind.PREFIX_DECREMENT) {
+                    names.add(unary.getExpression().toString());
                 }
                 return super.visitUnary(unary, nothing);
             }
 
             @Override
             public Void visitAssignment(AssignmentTree assignment, Void nothing) {
-                if (!byOne) {
-                    names.add(assignment.getVariable().toString());
-                }
+                names.add(assignment.getVariable().toString());
                 return super.visitAssignment(assignment, nothing);
+            }
+
+            @Override
+            public Void visitCompoundAssignment(CompoundAssignmentTree assignment, Void nothing) {
+                names.add(assignment.getVariable().toString());
+                return super.visitCompoundAssignment(assignment, nothing);
             }
         }.scan(tree, null);
         return names;
     }
 
-    private static boolean isStep(UnaryTree unary) {
-        return unary.getKind() == Tree.Kind.POSTFIX_INCREMENT || unary.getKind() == Tree.Kind.POSTFIX_DECREMENT;
-    }
-
-    /** The counters that a condition bounds: those left of a comparison, in a row of && alone. */
-    private static Set<String> bounded(Tree condition) {
+    /** The counters that a condition bounds: those left of such a comparison, in a row of && alone. */
+    private static Set<String> bounded(Tree condition, Set<Tree.Kind> comparisons) {
         Set<String> names = new HashSet<>();
         if (condition instanceof ParenthesizedTree inner) {
-            return bounded(inner.getExpression());
+            return bounded(inner.getExpression(), comparisons);
         }
         if (condition instanceof BinaryTree both) {
             if (both.getKind() == Tree.Kind.CONDITIONAL_AND) {
-                names.addAll(bounded(both.getLeftOperand()));
-                names.addAll(bounded(both.getRightOperand()));
-            } else if (Set.of(Tree.Kind.LESS_THAN, Tree.Kind.LESS_THAN_EQUAL, Tree.Kind.GREATER_THAN_EQUAL)
-                    .contains(both.getKind()) && both.getLeftOperand() instanceof IdentifierTree name) {
+                names.addAll(bounded(both.getLeftOperand(), comparisons));
+                names.addAll(bounded(both.getRightOperand(), comparisons));
+            } else if (comparisons.contains(both.getKind()) && both.getLeftOperand() instanceof IdentifierTree name) {
                 names.add(name.getName().toString());
             }
         }
         return names;
     }
 
+    /** The counters that go up to a bound, or down to one, by the steps inside a tree. */
+    private static Set<String> counters(Tree condition, Tree steps) {
+        Set<String> up = bounded(condition, Set.of(Tree.Kind.LESS_THAN, Tree.Kind.LESS_THAN_EQUAL));
+        up.retainAll(stepped(steps, Tree.Kind.POSTFIX_INCREMENT));
+        up.removeAll(stepped(steps, Tree.Kind.POSTFIX_DECREMENT));
+        Set<String> down = bounded(condition, Set.of(Tree.Kind.GREATER_THAN, Tree.Kind.GREATER_THAN_EQUAL));
+        down.retainAll(stepped(steps, Tree.Kind.POSTFIX_DECREMENT));
+        down.removeAll(stepped(steps, Tree.Kind.POSTFIX_INCREMENT));
+        up.addAll(down);
+        up.removeAll(set(steps));
+        return up;
+    }
+
     @Override
     public Void visitForLoop(ForLoopTree tree, Void nothing) {
         loops++;
-        Set<String> counters = bounded(tree.getCondition());
-        Set<String> stepped = new HashSet<>();
+        Set<String> counters = new HashSet<>();
         for (ExpressionStatementTree update : tree.getUpdate()) {
-            stepped.addAll(changed(update, true));
+            counters.addAll(counters(tree.getCondition(), update));
         }
-        counters.retainAll(stepped);
-        counters.removeAll(changed(tree.getStatement(), false));
-        counters.removeAll(changed(tree.getStatement(), true));
-        holds("9", "a for has a counter against a bound, changed by its own line alone", tree, !counters.isEmpty());
+        Tree body = tree.getStatement();
+        counters.removeAll(set(body));
+        counters.removeAll(stepped(body, Tree.Kind.POSTFIX_INCREMENT));
+        counters.removeAll(stepped(body, Tree.Kind.POSTFIX_DECREMENT));
+        holds("9", "a for has a counter that goes to a bound by its own line alone", tree, !counters.isEmpty());
         return super.visitForLoop(tree, nothing);
     }
 
     @Override
     public Void visitWhileLoop(WhileLoopTree tree, Void nothing) {
         loops++;
-        Set<String> counters = bounded(tree.getCondition());
-        counters.retainAll(changed(tree.getStatement(), true));
-        counters.removeAll(changed(tree.getStatement(), false));
-        holds("9", "a while has a counter against a bound", tree, !counters.isEmpty());
+        Set<String> counters = counters(tree.getCondition(), tree.getStatement());
+        holds("9", "a while has a counter that goes to a bound", tree, !counters.isEmpty());
         return super.visitWhileLoop(tree, nothing);
     }
 
